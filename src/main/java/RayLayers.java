@@ -53,8 +53,6 @@ public final class RayLayers {
     private final Path otherPath = new Path(scene);
     private final Survey survey = new Survey(scene);
     private final Parser parser = new Parser(input, trial);
-    private int parseCode = 0;
-    private int parsePosition = NONE;
 
     public RayLayers() {
         scene.layers.insert(0, 1500, 10, 0);
@@ -80,8 +78,6 @@ public final class RayLayers {
     public int load() {
         boolean parsed = parser.parse();
         input.length = 0;
-        parseCode = parser.code;
-        parsePosition = parser.errorStart;
         if (!parsed) {
             return PARSE_ERROR;
         }
@@ -91,11 +87,11 @@ public final class RayLayers {
     }
 
     public int errorCode() {
-        return parseCode;
+        return parser.errorCode;
     }
 
     public int errorPosition() {
-        return parsePosition;
+        return parser.errorStart;
     }
 
     public int property(int what) throws IllegalArgumentException {
@@ -1279,7 +1275,7 @@ public final class RayLayers {
         private int number;
         private boolean outsideTold;
         private boolean bottomTold;
-        int code = 0;
+        int errorCode = 0;
         int errorStart = NONE;
 
         Parser(Bytes text, Scene scene) {
@@ -1293,7 +1289,7 @@ public final class RayLayers {
             position = 0;
             outsideTold = false;
             bottomTold = false;
-            code = 0;
+            errorCode = 0;
             errorStart = NONE;
             readToken();
             boolean good = parseStatement();
@@ -1402,8 +1398,8 @@ public final class RayLayers {
             return takeSemicolon();
         }
 
-        private boolean fail(int withCode) {
-            code = withCode;
+        private boolean fail(int code) {
+            errorCode = code;
             errorStart = start;
             return false;
         }
