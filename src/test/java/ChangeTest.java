@@ -149,6 +149,7 @@ public final class ChangeTest {
 
     private static void promise44() {
         RayLayers rays = Check.of("layer 1500 thick 10;outside 1200;shot 0 down 5;");
+        T.due("44 straight", rays.turn(0, 0), 1);
         T.due("44 the bottom", rays.turn(0, 999), 1);
         T.due("44 the top", rays.turn(0, 1000), 0);
         T.due("44 trapped", rays.turn(0, 1499), 3);
@@ -159,7 +160,7 @@ public final class ChangeTest {
         T.dueArgument("44 slant -1", () -> rays.turn(0, -1));
         T.dueIndex("44 shot 1", () -> rays.turn(1, 4000));
         T.dueIndex("44 shot -1", () -> rays.turn(-1, 0));
-        T.due("44 undoCount", rays.undoCount(), 5);
+        T.due("44 undoCount", rays.undoCount(), 6);
     }
 
     private static void promise45() {

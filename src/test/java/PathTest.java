@@ -177,6 +177,9 @@ public final class PathTest {
         T.due("15 to a mirror", rays.critical(2, true), -1);
         rays.setOutside(1500);
         T.due("15 to the same outside", rays.critical(0, false), -1);
+        RayLayers four = Check.of("layer 1100 thick 1;layer 1200 thick 1;layer 1900 thick 1;layer 1300 thick 1;layer 1400 thick 1;");
+        T.due("15 the layer just above", four.critical(2, false), 1200);
+        T.due("15 the layer just below", four.critical(2, true), 1300);
         T.dueIndex("15 layer 3", () -> rays.critical(3, true));
         T.dueIndex("15 layer -1", () -> rays.critical(-1, false));
     }
@@ -215,6 +218,9 @@ public final class PathTest {
         T.due("27 the lowest of two", rays.strongest(), 3);
         T.due("26 no shots", new RayLayers().first(), -1);
         T.due("27 no shots", new RayLayers().strongest(), -1);
+        RayLayers best = Check.of(TWO + "shot 0 up 0;shot 1 up 0;");
+        T.due("26 the very first", best.first(), 0);
+        T.due("27 the very first", best.strongest(), 0);
         rays.setLayer(0, 1, 900);
         T.due("26 a thick layer", rays.first(), 1);
         T.due("27 it loses nothing", rays.strongest(), 3);
@@ -269,6 +275,7 @@ public final class PathTest {
         T.dueIndex("30 layer 2", () -> rays.legsIn(2));
         T.dueIndex("30 layer -1", () -> rays.legsIn(-1));
         T.due("31 no shots", Check.of(TWO).busiest(), -1);
+        T.due("31 a single leg", Check.of(TWO + "shot 1 down 0;").busiest(), 1);
         RayLayers none = Check.of("layer 1500 thick 1;layer 1000 thick 1;shot 0 down 1200;");
         none.swapLayers(0, 1);
         T.due("31 no legs", none.busiest(), -1);
@@ -311,6 +318,9 @@ public final class PathTest {
         T.due("35 undoCount", lossy.undoCount(), 1);
         lossy.setLayer(0, 2, 20);
         T.due("35 the lowest of two", lossy.bestWithout(0), 0);
+        T.due("35 of two layers", Check.of("layer 1000 thick 9;layer 1000 thick 9 loss 9;shot 0 down 0;").bestWithout(0), 1);
+        T.due("35 one layer a time", Check.of("layer 1000 thick 100 loss 9;layer 1000 thick 100 loss 10;"
+                + "layer 1000 thick 100 loss 20;shot 0 down 0;").bestWithout(0), 2);
         T.due("35 one layer", Check.of("layer 1000 thick 1;shot 0 up 0;").bestWithout(0), -1);
         T.dueIndex("35 shot 2", () -> lossy.bestWithout(2));
         T.dueIndex("35 shot -1", () -> lossy.bestWithout(-1));

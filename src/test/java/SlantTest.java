@@ -20,6 +20,7 @@ public final class SlantTest {
         T.due("16 top", rays.endOf(0, false, 750), 0);
         T.due("16 bottom", rays.endOf(0, true, 750), 1);
         T.due("16 reflected below", rays.endOf(0, true, 1000), 0);
+        T.due("16 straight", rays.endOf(0, false, 0), 0);
         T.due("16 trapped", rays.endOf(0, true, 1249), 3);
         T.due("16 just reflected above", rays.endOf(0, false, 1200), 3);
         T.due("16 it could not begin", rays.endOf(0, true, 1250), 4);
@@ -99,6 +100,11 @@ public final class SlantTest {
         T.due("24 the lowest of two", rays.guide(), 1);
         rays.setLayer(2, 0, 2100);
         T.due("24 the most", rays.guide(), 2);
+        // Down, the mirror is behind the legs 1 to 59, up behind the legs 2 to 58: the 30th mirroring leaves no power.
+        T.due("24 down, not up", Check.of("layer 1200 thick 10;bottom mirror 64;").guide(), -1);
+        T.due("24 with a little more", Check.of("layer 1200 thick 10;bottom mirror 65;").guide(), 0);
+        T.due("18 up, not down", Check.of("layer 1200 thick 10;bottom mirror 64;").slants(0, false, 3), 200);
+        T.due("24 one slant", Check.of("layer 1500 thick 10;outside 1499;bottom open 1499;").guide(), 0);
         RayLayers mirrored = Check.of("layer 1300 thick 10;layer 1200 thick 10;layer 2000 thick 10;bottom mirror 100;");
         T.due("24 by a mirror", mirrored.guide(), 2);
         mirrored.setMirror(0);

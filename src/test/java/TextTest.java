@@ -223,6 +223,9 @@ public final class TextTest {
         error("layer 1500 thick 10;\u00ff", 1, 20);
         error("layer 1500 thick 10,", 1, 19);
         error("layerx 1500 thick 10;", 1, 0);
+        error("xayer 1500 thick 10;", 1, 0);
+        error("layerz 1500 thick 10;", 1, 0);
+        error("layera 1500 thick 10;", 1, 0);
         error("laye 1500 thick 10;", 1, 0);
         error("layer 1500 thick 10;\0", 1, 20);
     }
