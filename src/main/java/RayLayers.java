@@ -677,7 +677,7 @@ public final class RayLayers {
         }
     }
 
-    /** Rows of three numbers; what is asked for or set outside of the rows is 0 and stays so. */
+    /** Rows of three numbers. Whether a row is there is asked by has(); beyond the room nothing is set, and all is 0. */
     private static final class Table {
         private final int[] cells = new int[MOST_SHOTS * COLUMNS];
         int rows = 0;

@@ -70,6 +70,9 @@ public final class LanguageTest {
                 publicNames.add(method.getName());
             }
         }
+        for (Method method : RayLayers.class.getDeclaredMethods()) {
+            T.due("a name of the face: " + method, Modifier.isPrivate(method.getModifiers()) && publicNames.contains(method.getName()), false);
+        }
         for (Field field : RayLayers.class.getDeclaredFields()) {
             if (Modifier.isPublic(field.getModifiers())) {
                 constants.add(field.getName());
