@@ -1,5 +1,6 @@
 import java.nio.charset.StandardCharsets;
 import java.util.Arrays;
+import java.util.List;
 
 /** What the project's tests share: comparing answers, texts into the input buffer, the output as a text. */
 final class Check {
@@ -7,6 +8,9 @@ final class Check {
         Object answer();
     }
 
+    private final Document document = new Document();
+    private String asked = "";
+    private int doneBefore = 0;
     private int done = 0;
     private int wrong = 0;
 
@@ -14,8 +18,43 @@ final class Check {
         done++;
         if (!want.equals(got)) {
             wrong++;
-            System.out.println(call + " answered " + got + ", due is " + want);
+            System.out.println(asked + call + " answered " + got + ", due is " + want);
         }
+    }
+
+    /** The words of the document, in one of its sections, by which the answers that follow are due. */
+    void says(String section, String... words) {
+        endOfWords();
+        asked = "[" + section + ": " + String.join(" .. ", words) + "] ";
+        doneBefore = done;
+        for (String quote : words) {
+            if (!document.quote(section, quote)) {
+                wrong++;
+                System.out.println("not in the document, " + section + ": " + quote);
+            }
+        }
+    }
+
+    void says(int promise, String... words) {
+        says("Promise " + promise, words);
+    }
+
+    private void endOfWords() {
+        if (!asked.isEmpty() && done == doneBefore) {
+            wrong++;
+            System.out.println(asked + "is not tested");
+        }
+    }
+
+    /** All of the document must have been said. */
+    void saidAll() {
+        endOfWords();
+        asked = "";
+        due("what of the document no test quotes", document.unquoted(), List.of());
+    }
+
+    String documentText(String section) {
+        return document.text(section);
     }
 
     /** The answer, or behind "throws." the name of the exception. */
@@ -39,8 +78,43 @@ final class Check {
         due(call, outcome(made), "throws.IllegalStateException");
     }
 
+    void dueElement(String call, Call made) {
+        due(call, outcome(made), "throws.NoSuchElementException");
+    }
+
+    interface CallOn {
+        Object answer(RayLayers rays);
+    }
+
+    interface CallWith {
+        Object answer(int value);
+    }
+
+    /** The values at both ends of a range, and those inside of them, are taken. */
+    void taken(String call, int least, int most, CallWith made) {
+        for (int value : new int[] {least, Math.min(least + 1, most), Math.max(most - 1, least), most}) {
+            due(call + " with " + value, outcome(() -> made.answer(value)).toString().startsWith("throws"), false);
+        }
+    }
+
+    /** The values just beyond a range, and those as far beyond it as can be, are refused. */
+    void refused(String call, int least, int most, String exception, CallWith made) {
+        int[] beyond = {least - 1, most + 1, Integer.MIN_VALUE, Integer.MAX_VALUE, least - 1000000, most + 1000000};
+        for (int value : beyond) {
+            if (value < least || value > most) {
+                due(call + " with " + value, outcome(() -> made.answer(value)), "throws." + exception);
+            }
+        }
+    }
+
+    void range(String call, int least, int most, String exception, CallWith made) {
+        taken(call, least, most, made);
+        refused(call, least, most, exception, made);
+    }
+
     /** Ends the test with exit code 1 if an answer was wrong. */
     void close(String name) {
+        endOfWords();
         System.out.println(name + ": " + done + " answers, " + wrong + " wrong");
         if (wrong > 0 || done == 0) {
             System.exit(1);
