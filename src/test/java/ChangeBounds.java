@@ -145,6 +145,10 @@ final class ChangeBounds {
         all.turn(7, 999);
         t.due("all but one", all.swapLayers(0, 1), 19);
         t.due("none, of two layers alike", Check.of("layer 1500 thick 1;layer 1500 thick 1;shot 0 up 1200;").swapLayers(0, 1), 0);
+        all.dropShot(19);
+        t.due("without the last one", all.swapLayers(0, 1), 18);
+        Check.load(all, "layer 1500 thick 1;layer 1000 thick 1;");
+        t.due("without any behind a text", all.swapLayers(0, 1), 0);
         RayLayers gone = Check.of("layer 1500 thick 1;layer 1000 thick 1;layer 1000 thick 1;shot 2 up 0;");
         gone.removeLayer(2);
         t.due("a shot without a layer", gone.swapLayers(0, 1), 0);

@@ -269,8 +269,30 @@ final class InputBounds {
         error("layera 1500 thick 10;", 1, 0);
         error("layerz 1500 thick 10;", 1, 0);
         error("alayer 1500 thick 10;", 1, 0);
+        eachLetter("", "layer", " 1500 thick 10;");
+        eachLetter("layer 1500 ", "thick", " 10;");
+        eachLetter("layer 1500 thick 10 ", "loss", " 0;");
+        eachLetter(BASE, "outside", " 1000;");
+        eachLetter(BASE, "bottom", " open 1000;");
+        eachLetter(BASE + "bottom ", "open", " 1000;");
+        eachLetter(BASE + "bottom ", "mirror", " 0;");
+        eachLetter(BASE, "shot", " 0 up 0;");
+        eachLetter(BASE + "shot 0 ", "up", " 0;");
+        eachLetter(BASE + "shot 0 ", "down", " 0;");
         error(BASE + "shot 0 updown 0;", 1, 27);
         error(BASE + "shot 0 up" + "a".repeat(300), 1, 27);
+    }
+
+    /** A word is another one with another letter at any place, with one letter less, and with one more. */
+    private void eachLetter(String ahead, String word, String behind) {
+        for (int place = 0; place < word.length(); place++) {
+            char other = word.charAt(place) == 'z' ? 'y' : (char) (word.charAt(place) + 1);
+            error(ahead + word.substring(0, place) + other + word.substring(place + 1) + behind, 1, ahead.length());
+            error(ahead + word.substring(0, place) + word.substring(place + 1) + behind, 1, ahead.length());
+            error(ahead + word.substring(0, place) + 'q' + word.substring(place) + behind, 1, ahead.length());
+        }
+        error(ahead + word + "q" + behind, 1, ahead.length());
+        good(ahead + word + behind);
     }
 
     private void numbers() {

@@ -62,6 +62,10 @@ final class PathBounds {
         // 1041 * 1041 - 724 * 724 is 748 * 748 + 1.
         t.due("a square and 1", firstLeg(1041, 999, 724), "966 1390 1446");
         t.due("another square, 800 * 800", firstLeg(1000, 999, 600), "749 1248 1248");
+        // Powers of two, of 2560 and 1536, 1280 and 768, 1088 and 960.
+        t.due("2048 * 2048", firstLeg(2560, 999, 1536), "749 1248 3194");
+        t.due("1024 * 1024", firstLeg(1280, 999, 768), "749 1248 1597");
+        t.due("512 * 512", firstLeg(1088, 999, 960), "1873 2122 2308");
         // With slant 1 the root is the index less 1.
         t.due("a square less 1, of slant 1", firstLeg(1000, 999, 1), "1 1000 1000");
         t.due("the greatest one: 4000", firstLeg(4000, 999, 0), "0 999 3996");

@@ -1,9 +1,6 @@
-import java.lang.reflect.InvocationTargetException;
 import java.lang.reflect.Method;
-import java.nio.charset.StandardCharsets;
 import java.util.ArrayList;
 import java.util.Arrays;
-import java.util.Comparator;
 import java.util.List;
 import java.util.Random;
 
@@ -14,96 +11,47 @@ public final class RandomRunsTest {
     private static final String WORDS = "layer thick loss outside bottom open mirror shot down up 0 1 10 999 1000 1500 4000 4001 ; ; x %";
 
     private final Random random;
-    private final int run;
-    private final RayLayers rays = new RayLayers();
-    private final Model model = new Model();
-    private final List<String> told = new ArrayList<>();
+    private final Twin twin;
+    private final Model model;
     /** Runs of many losses, thick or thin layers, few indexes: what is rare must come too. */
     private final int mostLoss;
     private final int mostThickness;
     private final int indexStep;
 
     private RandomRunsTest(int run) {
-        this.run = run;
         random = new Random(7000 + run);
+        twin = new Twin("run " + run);
+        model = twin.model;
         mostLoss = new int[] {0, 1, 5, 99}[random.nextInt(4)];
         mostThickness = new int[] {1, 20, 300, 999}[random.nextInt(4)];
         indexStep = new int[] {1, 100, 500, 1000}[random.nextInt(4)];
     }
 
     public static void main(String[] args) throws Exception {
-        Method[] methods = Arrays.stream(RayLayers.class.getDeclaredMethods())
-                .filter(method -> java.lang.reflect.Modifier.isPublic(method.getModifiers()))
-                .sorted(Comparator.comparing(Method::getName)).toArray(Method[]::new);
         int calls = 0;
         for (int run = 0; run < RUNS; run++) {
-            calls += new RandomRunsTest(run).go(methods);
+            calls += new RandomRunsTest(run).go();
         }
         System.out.println("RandomRunsTest: " + calls + " answers as the model's");
     }
 
-    private int go(Method[] methods) throws Exception {
-        loadText();
-        int calls = told.size();
-        while (calls < CALLS) {
-            int before = told.size();
+    private int go() throws Exception {
+        twin.load(text());
+        while (twin.calls() < CALLS) {
             if (random.nextInt(40) == 0) {
-                loadText();
+                twin.load(text());
             } else {
-                Method method = methods[random.nextInt(methods.length)];
+                Method method = Twin.METHODS[random.nextInt(Twin.METHODS.length)];
                 if (!isSlow(method.getName()) || random.nextInt(4) == 0) {
-                    call(method, arguments(method));
+                    twin.call(method, arguments(method));
                 }
             }
-            calls += told.size() - before;
         }
-        return calls;
+        return twin.calls();
     }
 
     private static boolean isSlow(String name) {
         return Arrays.asList("slants", "leastSlant", "slantFor", "fastest", "brightest", "farthest", "guide").contains(name);
-    }
-
-    private void call(String name, Object... arguments) throws Exception {
-        for (Method method : RayLayers.class.getDeclaredMethods()) {
-            if (method.getName().equals(name)) {
-                call(method, arguments);
-            }
-        }
-    }
-
-    private void call(Method method, Object[] arguments) throws Exception {
-        Method modelled = Model.class.getMethod(method.getName(), method.getParameterTypes());
-        modelled.setAccessible(true);
-        Object want = outcome(modelled, model, arguments);
-        Object got = outcome(method, rays, arguments);
-        told.add(method.getName() + Arrays.toString(arguments) + " -> " + got);
-        if (want == null ? got != null : !want.equals(got)) {
-            told.forEach(System.out::println);
-            System.out.println("run " + run + ", last call: due is " + want);
-            System.exit(1);
-        }
-    }
-
-    private static Object outcome(Method method, Object target, Object[] arguments) throws Exception {
-        try {
-            return method.invoke(target, arguments);
-        } catch (InvocationTargetException thrown) {
-            return "throws." + thrown.getCause().getClass().getSimpleName();
-        }
-    }
-
-    private void loadText() throws Exception {
-        byte[] text = text().getBytes(StandardCharsets.ISO_8859_1);
-        call("truncate", 0);
-        int length = Math.min(text.length, 400);
-        for (int at = 0; at < length; at += 20) {
-            call("append", Check.word(text, at), Check.word(text, at + 4), Check.word(text, at + 8), Check.word(text, at + 12), Check.word(text, at + 16));
-        }
-        call("truncate", length);
-        call("load");
-        call("errorCode");
-        call("errorPosition");
     }
 
     private String text() {

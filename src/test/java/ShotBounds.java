@@ -113,6 +113,24 @@ final class ShotBounds {
         powers.setLayer(0, 1, 99);
         t.due("less power by 1", powers.strongest(), 0);
         t.due("all power, the last of twenty", Check.of("layer 1500 thick 10;layer 1500 thick 10 loss 1;" + "shot1up0;".repeat(19) + "shot0up0;").strongest(), 19);
+        eachOfSix();
+    }
+
+    /** Six shots up, all through the same loss but one: that one is out first, and with the most power. */
+    private void eachOfSix() {
+        for (int best = 0; best < 6; best++) {
+            RayLayers rays = Check.of("layer 1500 thick 10;layer 1500 thick 10 loss 9;" + "shot1up0;".repeat(best) + "shot0up0;" + "shot1up0;".repeat(5 - best));
+            t.due("shot " + best + " of six", best(rays), best);
+            RayLayers none = Check.of("layer 1500 thick 10 loss 9;layer 1500 thick 10;bottom open 1000;"
+                    + "shot1up1000;".repeat(best) + "shot0up0;" + "shot1up1000;".repeat(5 - best));
+            none.setOutside(1000);
+            t.due("shot " + best + ", the only one of six that is out", best(none), best);
+        }
+    }
+
+    /** The number that first() and strongest() both tell; NONE if they tell others. */
+    private static int best(RayLayers rays) {
+        return rays.first() == rays.strongest() ? rays.first() : RayLayers.NONE;
     }
 
     private void alike() {
@@ -130,6 +148,9 @@ final class ShotBounds {
         t.due("three of sixty and three", rays.alike(5, 0), 3);
         t.due("all sixty", rays.alike(5, 6), 60);
         t.due("one of one and sixty", rays.alike(2, 7), 1);
+        RayLayers turning = Check.of("layer 1500 thick 10;outside 1500;bottom open 1200;shot 0 down 1199;shot 0 down 1200;");
+        t.due("one of one and two: v0 and v0^0", turning.alike(0, 1), 1);
+        t.due("one of two and one: v0^0 and v0", turning.alike(1, 0), 1);
         rays.setLayer(1, 0, 1200);
         rays.turn(1, 1200);
         t.due("one of three: it is reflected", rays.alike(0, 1), 1);
@@ -160,6 +181,10 @@ final class ShotBounds {
         t.due("one leaves at 32", mirror.together(0, 1), 30);
         mirror.setLayer(1, 1, 14);
         t.due("one comes at 28", mirror.together(0, 1), 28);
+        // Shot 0 stays in the first layer, a leg a time of 82; shot 1 goes down and up through nine layers of 266 a leg.
+        RayLayers late = Check.of("layer1500thick2;" + "layer1400thick190;".repeat(9) + "bottom mirror 100;shot 0 down 1499;shot 1 down 0;");
+        t.due("behind 58 legs of one and 18 of the other", late.together(0, 1), 18 * 266);
+        t.due("these legs", late.legAt(0, 18 * 266) * 100 + late.legAt(1, 18 * 266), 5818);
         t.says(29, "NONE if there is none, or one of both has no legs.");
         int[][] outs = {{29, 30, -1}, {30, 30, -1}, {31, 30, 30}};
         for (int[] thick : outs) {
@@ -175,8 +200,8 @@ final class ShotBounds {
         RayLayers never = Check.of("layer 1500 thick 9;layer 1000 thick 9;layer 1500 thick 9;shot 0 down 1000;shot 2 down 1499;");
         t.due("sixty legs each, always apart", never.together(0, 1), -1);
         // Shot 1 is reflected at the bottom at 36, and comes into the upper layer at 72; shot 0 is on its first leg there.
-        RayLayers late = Check.of("layer 1500 thick 999;layer 4000 thick 9;bottom open 1000;shot 0 up 1499;shot 1 down 1499;");
-        t.due("behind a first leg", late.together(0, 1), 72);
+        RayLayers behind = Check.of("layer 1500 thick 999;layer 4000 thick 9;bottom open 1000;shot 0 up 1499;shot 1 down 1499;");
+        t.due("behind a first leg", behind.together(0, 1), 72);
     }
 
     private void legsIn() {
@@ -195,6 +220,11 @@ final class ShotBounds {
         t.due("one without legs", rays.legsIn(0), 1081);
     }
 
+    /** Five layers, one of them of another index. */
+    private static String oneOfFive(int layer, String index, String others) {
+        return ("layer" + others + "thick1;").repeat(layer) + "layer" + index + "thick1;" + ("layer" + others + "thick1;").repeat(4 - layer);
+    }
+
     private void busiest() {
         t.says(31, "Returns the layer that the most legs of all shots cross, the lowest one of several; NONE without legs.");
         t.due("no shots", new RayLayers().busiest(), -1);
@@ -208,6 +238,10 @@ final class ShotBounds {
         t.due("three legs each: the lowest one", rays.busiest(), 0);
         rays.shoot(2, true, 0);
         t.due("one leg more", rays.busiest(), 2);
+        for (int layer = 0; layer < 5; layer++) {
+            t.due("layer " + layer + " of five, where a shot is trapped", Check.of(oneOfFive(layer, "2000", "1000")
+                    + "shot 4 up 0;shot 0 down 0;shot " + layer + " down 1500;").busiest(), layer);
+        }
         RayLayers none = Check.of("layer 1500 thick 10;shot 0 up 0;shot 0 down 0;");
         none.turn(0, 1500);
         t.due("one of two without legs", none.busiest(), 0);
@@ -222,6 +256,11 @@ final class ShotBounds {
         t.due("the thickest and the thinnest", Check.of("layer 4000 thick 999;layer 1000 thick 1;").meanIndex(), 3997.0);
         t.due("not whole", Check.of("layer 1000 thick 2;layer 1001 thick 1;").meanIndex(), 3001.0 / 3.0);
         t.due("not rounded down", Check.of("layer 1000 thick 1;layer 1001 thick 1;").meanIndex(), 1000.5);
+        RayLayers less = Check.of("layer 1000 thick 1;layer 4000 thick 999;layer 3000 thick 500;");
+        less.removeLayer(2);
+        t.due("without the last layer", less.meanIndex(), 3997.0);
+        less.removeLayer(1);
+        t.due("without the last two", less.meanIndex(), 1000.0);
         t.due("what is around them does not count", Check.of("layer 1500 thick 7;outside 4000;bottom open 4000;").meanIndex(), 1500.0);
     }
 
@@ -296,6 +335,11 @@ final class ShotBounds {
         // Without layer 0 it goes up through losses 9 and 0; without 1 through 9 and 1; without 2 through 0 and 1.
         t.due("without the one below it", own.bestWithout(0), 2);
         t.due("the last of ten", Check.of("layer1500thick1;".repeat(9) + "layer1500thick1loss1;shot 0 down 0;").bestWithout(0), 9);
+        for (int layer = 0; layer < 5; layer++) {
+            RayLayers rays = Check.of(oneOfFive(layer, "1500", "1500") + "shot 0 down 0;");
+            rays.setLayer(layer, 2, 1);
+            t.due("layer " + layer + " of five", rays.bestWithout(0), layer);
+        }
         RayLayers slant = Check.of("layer 1500 thick 1;layer 1200 thick 1;shot 0 down 1200;");
         // Without layer 0 its slant is not less than the index: power 0; without layer 1 it is trapped with all its power.
         t.due("a slant that is the index", slant.bestWithout(0), 1);

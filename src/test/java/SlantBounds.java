@@ -144,6 +144,11 @@ final class SlantBounds {
         mixed(asked, "0 -1 -1 1050", "0 -1 -1 1050", "0 -1 -1 1050", "0 -1 -1 1050", "0 -1 1300 1050", "0 -1 1300 1050");
     }
 
+    /** From slant 1000 to 1499 trapped in both layers, from 1500 on in the upper one alone: in less time, with more power, with a less sum of shifts. */
+    private static RayLayers guides() {
+        return Check.of("layer 2000 thick 10;layer 1500 thick 100;");
+    }
+
     private void slantFor() {
         layersOf(20, RayLayers::slantFor);
         t.says(20, DOWN);
@@ -192,6 +197,8 @@ final class SlantBounds {
         t.due("just as long, and less", Check.of("layer 2000 thick 10;layer 1000 thick 1;outside 2000;bottom mirror 100;").fastest(0, true, 0), 0);
         t.due("the same time: the lowest one", Check.of("layer 2000 thick 10;layer 1000 thick 2;outside 2000;bottom mirror 100;").fastest(0, true, 0), 0);
         t.due("longer by 2", Check.of("layer 2000 thick 10;layer 1000 thick 3;outside 2000;bottom mirror 100;").fastest(0, true, 0), 1000);
+        t.due("trapped in both layers or in one", guides().fastest(0, true, 3), 1500);
+        t.due("trapped, from the lower one", guides().fastest(1, true, 3), 1000);
         mixed(asked, "0 -1 -1 1050", "0 -1 -1 1050", "0 -1 -1 1050", "0 -1 -1 1050", "0 -1 1300 1050", "0 -1 1300 1050");
     }
 
@@ -209,6 +216,8 @@ final class SlantBounds {
         // 9 / 3003 / 3003 of 1000000 is 0.998, 16 / 3004 / 3004 is 1.77.
         t.due("the same power: the lowest one", Check.of("layer 1503 thick 10;layer 1500 thick 10;outside 1503;bottom mirror 100;").brightest(0, true, 0), 0);
         t.due("less power by 1 a crossing", Check.of("layer 1504 thick 10;layer 1500 thick 10;outside 1504;bottom mirror 100;").brightest(0, true, 0), 1500);
+        t.due("trapped in both layers or in one", guides().brightest(0, true, 3), 1500);
+        t.due("trapped, from the lower one", guides().brightest(1, true, 3), 1000);
         mixed(asked, "0 -1 -1 1050", "0 -1 -1 1050", "0 -1 -1 1050", "0 -1 -1 1050", "0 -1 1300 1050", "0 -1 1300 1050");
     }
 
@@ -222,6 +231,8 @@ final class SlantBounds {
         four("not NONE but 0", Check.of("layer 1500 thick 1;outside 1000;bottom mirror 0;"), 0, true, asked, "-1 -1 27 -1");
         four("absorbed", Check.of("layer 1000 thick 999 loss 99;"), 0, false, asked, "10040 -1 22681 -1");
         t.due("the greatest sum", Check.of("layer 4000 thick 999;").farthest(0, true, 3), 2693220);
+        // 30 * (10 * 1499 / 1324 + 100 * 1499 / 54) with slant 1499, 60 * (10 * 1999 / 63) with slant 1999.
+        t.due("trapped in both layers or in one", guides().farthest(0, true, 3), 30 * (11 + 2775));
         mixed(asked, "148 -1 -1 5700", "31 -1 -1 5700", "117 -1 -1 9030", "44 -1 -1 9030", "104 -1 80886 9030", "74 -1 82472 9030");
     }
 
@@ -232,6 +243,10 @@ final class SlantBounds {
         t.due("no slant: reflected above alone", Check.of("layer 1500 thick 10;bottom open 1500;").guide(), -1);
         t.due("one slant", Check.of("layer 1500 thick 10;outside 1499;bottom open 1499;").guide(), 0);
         t.due("one slant in the last of ten", Check.of("layer1000thick1;".repeat(9) + "layer1001thick1;").guide(), 9);
+        for (int layer = 0; layer < 5; layer++) {
+            t.due("layer " + layer + " of five", Check.of("layer1200thick1;".repeat(layer) + "layer1300thick1;" + "layer1200thick1;".repeat(4 - layer)
+                    + "outside1150;bottom open 1150;").guide(), layer);
+        }
         t.due("the lowest of two", Check.of("layer 1500 thick 1;layer 1200 thick 1;layer 1500 thick 1;").guide(), 0);
         t.due("one more slant", Check.of("layer 1500 thick 1;layer 1200 thick 1;layer 1501 thick 1;").guide(), 2);
         t.due("one slant less", Check.of("layer 1500 thick 1;layer 1200 thick 1;layer 1499 thick 1;").guide(), 0);
@@ -248,6 +263,7 @@ final class SlantBounds {
         each("layer 1100 thick 10;layer 1300 thick 10;layer 1500 thick 50 loss 2;outside 1050;bottom mirror 60;", 2, true);
         each("layer 1400 thick 300 loss 9;layer 1001 thick 3 loss 1;layer 1450 thick 999;outside 1350;bottom open 1449;", 0, true);
         each("layer 1400 thick 300 loss 9;layer 1001 thick 3 loss 1;layer 1450 thick 999;outside 1350;bottom open 1449;", 2, false);
+        each("layer 2000 thick 10;layer 1500 thick 100;", 0, true);
         each("layer 1000 thick 1;layer 1001 thick 999 loss 99;layer 1002 thick 1;outside 1002;bottom mirror 99;", 1, false);
     }
 
